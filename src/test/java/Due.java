@@ -1,0 +1,44 @@
+import java.util.concurrent.Callable;
+
+/** Holds each answer against the one that is due; a test ends by calling finish. */
+final class Due {
+    private static int asked = 0;
+    private static int wrong = 0;
+
+    static final String ARGUMENT = "throws.IllegalArgumentException";
+    static final String STATE = "throws.IllegalStateException";
+    static final String UNSUPPORTED = "throws.UnsupportedOperationException";
+    static final String ARITHMETIC = "throws.ArithmeticException";
+    static final String NO_ELEMENT = "throws.NoSuchElementException";
+
+    private Due() {
+    }
+
+    /** What a call answers, as a text; its exact exception behind "throws." if it throws. */
+    static String answerOf(Callable<?> call) {
+        try {
+            return String.valueOf(call.call());
+        } catch (Exception e) {
+            return "throws." + e.getClass().getSimpleName();
+        }
+    }
+
+    static void is(String call, Callable<?> got, Object want) {
+        same(call, answerOf(got), String.valueOf(want));
+    }
+
+    static void same(String call, String got, String want) {
+        asked++;
+        if (!got.equals(want)) {
+            wrong++;
+            System.out.println(call + " answered " + got + ", due is " + want);
+        }
+    }
+
+    static void finish() {
+        System.out.println(asked + " answers asked, " + wrong + " not as due");
+        if (wrong != 0 || asked == 0) {
+            System.exit(1);
+        }
+    }
+}
