@@ -11,7 +11,26 @@ final class Due {
     static final String ARITHMETIC = "throws.ArithmeticException";
     static final String NO_ELEMENT = "throws.NoSuchElementException";
 
+    private static final int MINUTES_FOR_A_TEST = 5;
+
+    static {
+        Thread watch = new Thread(Due::endWhatDoesNotEnd);
+        watch.setDaemon(true);
+        watch.start();
+    }
+
     private Due() {
+    }
+
+    /** A call that fails to end is a fault as well, and must not hold up the tests for ever. */
+    private static void endWhatDoesNotEnd() {
+        try {
+            Thread.sleep(MINUTES_FOR_A_TEST * 60_000L);
+        } catch (InterruptedException e) {
+            return;
+        }
+        System.out.println("the test has not ended in " + MINUTES_FOR_A_TEST + " minutes");
+        Runtime.getRuntime().halt(1);
     }
 
     /** What a call answers, as a text; its exact exception behind "throws." if it throws. */
