@@ -4,6 +4,7 @@ import java.lang.reflect.Method;
 import java.lang.reflect.Modifier;
 import java.nio.file.Files;
 import java.nio.file.Path;
+import java.util.ArrayList;
 import java.util.List;
 import java.util.Set;
 import java.util.TreeSet;
@@ -52,6 +53,7 @@ public final class FaceTest {
         theMethods();
         theConstructorAndTheConstant();
         theInnerClasses();
+        noLambdas();
         theSource();
         Due.finish();
     }
@@ -93,6 +95,17 @@ public final class FaceTest {
             int m = c.getModifiers();
             Due.is(c + " is static, and neither public nor protected",
                 () -> Modifier.isStatic(m) && !Modifier.isPublic(m) && !Modifier.isProtected(m), true);
+        }
+    }
+
+    /** Asked of the compiled classes, since the sign of a lambda is that of a switch as well. */
+    private static void noLambdas() {
+        List<Class<?>> all = new ArrayList<>(List.of(HarbourBoard.class.getDeclaredClasses()));
+        all.add(HarbourBoard.class);
+        for (Class<?> c : all) {
+            for (Method m : c.getDeclaredMethods()) {
+                Due.is(m + " is a lambda", () -> m.getName().startsWith("lambda$"), false);
+            }
         }
     }
 
