@@ -38,7 +38,8 @@ final class Due {
         try {
             return String.valueOf(call.call());
         } catch (Exception e) {
-            return "throws." + e.getClass().getSimpleName();
+            // An exception class of another package keeps its long name, and is never the one that is due.
+            return "throws." + e.getClass().getName().replaceFirst("^java\\.(lang|util)\\.", "");
         }
     }
 

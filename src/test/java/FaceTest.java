@@ -14,27 +14,27 @@ import java.util.regex.Pattern;
 /** The public face is the document's, and what LANGUAGE.md rules out is not there. */
 public final class FaceTest {
     private static final String[] FACE = {
-        "public boolean HarbourBoard.gale(int,float)",
-        "public boolean HarbourBoard.holds(int,int,int,int)",
-        "public boolean HarbourBoard.lift(int,int)",
-        "public boolean HarbourBoard.mark(int,int,double)",
-        "public double HarbourBoard.highest(int)",
-        "public float HarbourBoard.calmest(int)",
-        "public int HarbourBoard.clear(int)",
-        "public int HarbourBoard.count(int,int,int,boolean)",
-        "public int HarbourBoard.level(int,double)",
-        "public int HarbourBoard.move(boolean)",
-        "public int HarbourBoard.order(int)",
-        "public int HarbourBoard.out(int,int)",
-        "public int HarbourBoard.pick(int,int,int,int)",
-        "public int HarbourBoard.probe(double)",
-        "public int HarbourBoard.probeOut(int)",
-        "public int HarbourBoard.probeWind(float)",
-        "public int HarbourBoard.run(int,int,int,boolean)",
-        "public int HarbourBoard.same(int,int)",
-        "public int HarbourBoard.size(int,int)",
-        "public int HarbourBoard.stand(int)",
-        "public int HarbourBoard.wind(int,float)",
+        "public boolean HarbourBoard.gale(int,float) throws IllegalArgumentException",
+        "public boolean HarbourBoard.holds(int,int,int,int) throws IllegalArgumentException",
+        "public boolean HarbourBoard.lift(int,int) throws IllegalArgumentException",
+        "public boolean HarbourBoard.mark(int,int,double) throws IllegalArgumentException",
+        "public double HarbourBoard.highest(int) throws IllegalArgumentException, NoSuchElementException",
+        "public float HarbourBoard.calmest(int) throws IllegalArgumentException, NoSuchElementException",
+        "public int HarbourBoard.clear(int) throws IllegalArgumentException",
+        "public int HarbourBoard.count(int,int,int,boolean) throws IllegalArgumentException",
+        "public int HarbourBoard.level(int,double) throws IllegalArgumentException, IllegalStateException",
+        "public int HarbourBoard.move(boolean) throws IllegalStateException, UnsupportedOperationException, ArithmeticException",
+        "public int HarbourBoard.order(int) throws IllegalArgumentException",
+        "public int HarbourBoard.out(int,int) throws IllegalArgumentException, IllegalStateException",
+        "public int HarbourBoard.pick(int,int,int,int) throws IllegalArgumentException",
+        "public int HarbourBoard.probe(double) throws IllegalArgumentException",
+        "public int HarbourBoard.probeOut(int) throws IllegalArgumentException",
+        "public int HarbourBoard.probeWind(float) throws IllegalArgumentException",
+        "public int HarbourBoard.run(int,int,int,boolean) throws IllegalArgumentException",
+        "public int HarbourBoard.same(int,int) throws IllegalArgumentException",
+        "public int HarbourBoard.size(int,int) throws IllegalArgumentException",
+        "public int HarbourBoard.stand(int) throws IllegalArgumentException",
+        "public int HarbourBoard.wind(int,float) throws IllegalArgumentException, IllegalStateException",
     };
 
     /** Whole words and signs that no rule of LANGUAGE.md leaves room for. */
@@ -51,6 +51,7 @@ public final class FaceTest {
 
     public static void main(String[] args) throws Exception {
         theMethods();
+        theThrowsClauses();
         theConstructorAndTheConstant();
         theInnerClasses();
         noLambdas();
@@ -63,15 +64,38 @@ public final class FaceTest {
         Set<String> publicNames = new TreeSet<>();
         for (Method m : HarbourBoard.class.getDeclaredMethods()) {
             if (!Modifier.isPrivate(m.getModifiers())) {
-                visible.add(m.toString().replaceAll(" throws .*", ""));
+                visible.add(withoutThrows(m.toString()));
                 publicNames.add(m.getName());
             }
         }
-        Due.same("the visible methods", visible.toString(), new TreeSet<>(List.of(FACE)).toString());
+        Set<String> due = new TreeSet<>();
+        for (String line : FACE) {
+            due.add(withoutThrows(line));
+        }
+        Due.same("the visible methods", visible.toString(), due.toString());
         for (Method m : HarbourBoard.class.getDeclaredMethods()) {
             boolean hidden = Modifier.isPrivate(m.getModifiers());
             Due.is(m + " is private and bears a public method's name", () -> hidden && publicNames.contains(m.getName()), false);
         }
+    }
+
+    private static String withoutThrows(String method) {
+        return method.replaceAll(" throws .*", "");
+    }
+
+    /** A clause may be left out, since no caller can tell; what the face does not name, no caller has to reckon with. */
+    private static void theThrowsClauses() {
+        for (String line : FACE) {
+            for (Method m : HarbourBoard.class.getMethods()) {
+                if (withoutThrows(m.toString()).equals(withoutThrows(line))) {
+                    Set<String> named = Set.of(line.replaceAll(".* throws ", "").split(", "));
+                    for (Class<?> declared : m.getExceptionTypes()) {
+                        Due.is(m + ": the face names " + declared, () -> named.contains(declared.getSimpleName()), true);
+                    }
+                }
+            }
+        }
+        Due.is("exceptions of the constructor", () -> HarbourBoard.class.getConstructor().getExceptionTypes().length, 0);
     }
 
     private static void theConstructorAndTheConstant() throws Exception {

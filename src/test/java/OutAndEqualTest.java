@@ -18,6 +18,7 @@ public final class OutAndEqualTest {
         standByLowAndHigh();
         standTheFirstThatIsSo();
         standByGale();
+        marksAreTheVeryNumbers();
         standAddsUp();
         orderOfEqualAndOut();
         highestAndCalmest();
@@ -354,6 +355,23 @@ public final class OutAndEqualTest {
         Due.is("16 GALE is lifted", () -> b.stand(4), 0);
     }
 
+    /** A mark is the number that it was set to, not one near it: so its neighbours on either side are no match. */
+    private static void marksAreTheVeryNumbers() {
+        for (double v : new double[] {-999.9999999999999, -8.5, -0.1, Double.MIN_VALUE, 0.1, 0.3, 7.25, 123.456, 999.5}) {
+            Due.is("6 a level at LOW " + v, () -> stand(v, v, null), 4);
+            Due.is("6 a level just below LOW " + v, () -> stand(Math.nextDown(v), v, null), 2);
+            Due.is("6 a level just above LOW " + v, () -> stand(Math.nextUp(v), v, null), 6);
+            Due.is("6 a level at HIGH " + v, () -> stand(v, null, v), 4);
+            Due.is("6 a level just below HIGH " + v, () -> stand(Math.nextDown(v), null, v), 6);
+            Due.is("6 a level just above HIGH " + v, () -> stand(Math.nextUp(v), null, v), 3);
+        }
+        for (float v : new float[] {Float.MIN_VALUE, 0.1f, 7.25f, 50.1f, 123.456f, 199.99998f}) {
+            Due.is("7 a wind at GALE " + v, () -> windStand(v, v), 20);
+            Due.is("7 a wind just below GALE " + v, () -> windStand(Math.nextDown(v), v), 10);
+            Due.is("7 a wind just above GALE " + v, () -> windStand(Math.nextUp(v), v), 20);
+        }
+    }
+
     private static void standAddsUp() {
         Double[][] levelLowHigh = {
             {null, null, null}, {4.0, 5.0, null}, {10.0, null, 9.0}, {5.0, 5.0, 9.0}, {5.0, null, null}, {7.0, 5.0, 9.0},
@@ -404,6 +422,7 @@ public final class OutAndEqualTest {
         order("minus nought and nought are equal", new Double[] {-0.0, 0.0, -0.0, 0.0, 1.0, -1.0}, 4, 0, 1, 2, 3, 5);
         order("the nearest ones are not equal",
             new Double[] {5.0, Math.nextUp(5.0), Math.nextDown(5.0), 5.0, Math.nextUp(5.0), null}, 1, 4, 0, 3, 2, 5);
+        orderOfEmptyAndOut();
         HarbourBoard b = new HarbourBoard();
         b.level(0, 9);
         b.level(0, 1);
@@ -415,6 +434,22 @@ public final class OutAndEqualTest {
         Due.is("17 by the latest: second", () -> b.order(1), 0);
         Due.is("17 the latest is OUT, though numbers came", () -> b.order(2), 1);
         Due.is("17 winds do not count", () -> b.order(3), 3);
+    }
+
+    /** The latest of an empty strip is OUT as any other: each mixture of the two leaves the gauges as they are numbered. */
+    private static void orderOfEmptyAndOut() {
+        for (int mixture = 0; mixture < 64; mixture++) {
+            HarbourBoard b = new HarbourBoard();
+            for (int g = 0; g < 6; g++) {
+                if ((mixture >> g & 1) == 1) {
+                    b.out(g, 0);
+                }
+            }
+            for (int k = 0; k < 6; k++) {
+                int place = k;
+                Due.is("17 empty strips and OUT, mixture " + mixture + ", place " + k, () -> b.order(place), k);
+            }
+        }
     }
 
     private static void highestAndCalmest() {
